@@ -224,11 +224,12 @@ public final class PatternText {
             return NONE;
         }
 
-        // Neither holidays nor the last day count here: the document speaks of steps in 360 days alone.
+        // Holidays do not count here: they move the day that an issue expects, not its step.
         int issuesInYearFrom(int day) {
+            int last = Math.min(day + DAYS_OF_YEAR - 1, LAST_DAY);
             int count = 0;
             int step = day;
-            for (int looked = 0; looked < DAYS_OF_YEAR && step - day < DAYS_OF_YEAR; looked++) {
+            for (int looked = 0; looked < DAYS_OF_YEAR && step <= last; looked++) {
                 if (hasIssueOn(step)) {
                     count++;
                 }

@@ -287,7 +287,7 @@ final class PlainModel {
             return -1;
         }
         int count = 0;
-        for (int d = 0; d < 360; d++) {
+        for (int d = 0; d < 360 && day + d <= 1000000; d++) {
             count += d % rules.get(pattern).step == 0 && rules.get(pattern).issueOn(day + d) ? 1 : 0;
         }
         return count / each;

@@ -18,7 +18,7 @@ public final class YearlyTest {
         Check.due("by the least", x.yearly(6, 3, Integer.MIN_VALUE), 0);
         Check.due("by the most", x.yearly(6, 3, Integer.MAX_VALUE), 0);
         Check.due("by -1", x.yearly(6, 3, -1), -40);
-        Check.due("360 days from the last day", x.yearly(6, 1000000, 1), 40);
+        atTheLastDay(x);
         x.holiday(351);
         x.holiday(0);
         Check.due("holidays do not matter", x.yearly(6, 0, 1), 40);
@@ -27,6 +27,23 @@ public final class YearlyTest {
         Check.dates("the list stays", x, 1, 9, 18);
         wrongArguments(x);
         Check.end();
+    }
+
+    /** Day 1000000 is in month 9, which begins with 999990; 999900 begins month 6. */
+    private static void atTheLastDay(PatternText x) {
+        Check.due("no issue beyond the last day", x.yearly(0, 1000000, 1), 1);
+        Check.due("the last day and the one before", x.yearly(0, 999999, 1), 2);
+        Check.due("the first of 360 that all are days", x.yearly(0, 999641, 1), 360);
+        Check.due("one of 360 is beyond the last day", x.yearly(0, 999642, 1), 359);
+        Check.due("a step on the last day", x.yearly(6, 999991, 1), 2);
+        Check.due("a step just beyond the last day", x.yearly(6, 999992, 1), 1);
+        Check.due("the month of the last day", x.yearly(1, 999990, 1), 1);
+        Check.due("a month left out, then the last three", x.yearly(1, 999900, 1), 3);
+        Check.due("all left out up to the last day", x.yearly(5, 1000000, 1), 0);
+        Check.due("cut at the last day, then divided", x.yearly(0, 999991, 4), 2);
+        Check.due("each 0 throws at the last day too", throwsArithmetic(x, 0, 1000000, 0), 1);
+        x.holiday(1000000);
+        Check.due("a holiday moves no step", x.yearly(0, 1000000, 1), 1);
     }
 
     private static void wrongArguments(PatternText x) {
@@ -38,14 +55,14 @@ public final class YearlyTest {
             Check.due("yearly(0, " + day + ", 1)", x.yearly(0, day, 1), -1);
             Check.due("yearly(0, " + day + ", 0)", x.yearly(0, day, 0), -1);
         }
-        Check.due("each 0 throws", throwsArithmetic(x, 0, 0), 1);
-        Check.due("each 0 throws, nothing to divide", throwsArithmetic(x, 5, 0), 1);
-        Check.due("each 1 throws nothing", throwsArithmetic(x, 5, 1), 0);
+        Check.due("each 0 throws", throwsArithmetic(x, 0, 0, 0), 1);
+        Check.due("each 0 throws, nothing to divide", throwsArithmetic(x, 5, 0, 0), 1);
+        Check.due("each 1 throws nothing", throwsArithmetic(x, 5, 0, 1), 0);
     }
 
-    private static int throwsArithmetic(PatternText x, int pattern, int each) {
+    private static int throwsArithmetic(PatternText x, int pattern, int day, int each) {
         try {
-            x.yearly(pattern, 0, each);
+            x.yearly(pattern, day, each);
             return 0;
         } catch (ArithmeticException e) {
             return 1;
