@@ -46,6 +46,36 @@ final class Check {
         due(call + ", issue behind the last", x.issue(want.length, what), PatternText.NONE);
     }
 
+    /** A text that is a pattern, to a new object. */
+    static void fits(String text) {
+        due("read() of '" + text + "'", read(new PatternText(), text), 0);
+    }
+
+    /** A text that is WRONG at a place, to a new object. */
+    static void wrongAt(String text, int place) {
+        due("read() of '" + text + "'", read(new PatternText(), text), -1 - place);
+    }
+
+    static void same(String call, String got, String want) {
+        if (!got.equals(want)) {
+            wrong++;
+            System.out.println(call + " left " + got + ", due is " + want);
+        }
+    }
+
+    /** All that can be asked of the list, and of its issues' lateness on a day, without changing anything. */
+    static String state(PatternText x, int day) {
+        StringBuilder b = new StringBuilder();
+        for (int i = 0; x.date(i) != PatternText.NONE; i++) {
+            b.append(i).append(" expects ").append(x.date(i)).append(':');
+            for (int what = 0; what <= 5; what++) {
+                b.append(' ').append(x.issue(i, what));
+            }
+            b.append(" late ").append(x.late(i, day)).append("; ");
+        }
+        return b.toString();
+    }
+
     static void end() {
         System.out.println(wrong == 0 ? "all answers are as due" : wrong + " answers are not as due");
         if (wrong != 0) {

@@ -1,6 +1,6 @@
 import java.util.Random;
 
-/** Runs of calls by a fixed seed, wild arguments among them, answered as the plain model answers. */
+/** Runs of 512 calls by a fixed seed, wild arguments among them, answered as the plain model answers. */
 public final class ModelTest {
     private static final int RUNS = 3000;
     private static final int CALLS = 512;
@@ -50,6 +50,7 @@ public final class ModelTest {
         if (random.nextInt(40) == 0) {
             text = text + " ".repeat(random.nextInt(130));
         }
+        text = text.substring(0, Math.min(text.length(), CALLS - calls - 1));
         for (int k = 0; k < text.length(); k++) {
             int c = text.charAt(k) + 256 * (random.nextInt(5) - 2);
             x.sign(c);
@@ -134,7 +135,7 @@ public final class ModelTest {
         } else {
             due("changed(" + p + ", " + d + ")", x.changed(p, d), model.changed(p, d));
         }
-        for (int k = 0; k < 6; k++) {
+        for (int k = 0; k < 6 && calls < CALLS; k++) {
             issueSome(random.nextInt(8));
         }
     }

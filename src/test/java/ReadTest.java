@@ -19,113 +19,109 @@ public final class ReadTest {
         Check.with(texts);
     }
 
-    private static void wrong(String text, int place) {
-        Check.due("read() of '" + text + "'", Check.read(new PatternText(), text), -1 - place);
-    }
-
     private static void wrongBeginnings() {
-        wrong("", 0);
-        wrong("e", 0);
-        wrong("ever 5 days", 0);
-        wrong("Every 5 days", 0);
-        wrong("everyone 5 days", 0);
-        wrong(" every 5 days", 0);
-        wrong("skip 3", 0);
-        wrong("every", 5);
-        wrong("every5 days", 5);
-        wrong("every ", 6);
-        wrong("every days", 6);
-        wrong("every 5", 7);
-        wrong("every 5days", 7);
-        wrong("every 5,6 days", 7);
-        wrong("every 5 ", 8);
-        wrong("every 5 day", 8);
-        wrong("every 5 daysx", 8);
-        wrong("every 5 years", 8);
-        wrong("every 5 week", 8);
-        wrong("every 5 month", 8);
-        wrong("every 5 6", 8);
-        wrong("every 5 days,", 12);
+        Check.wrongAt("", 0);
+        Check.wrongAt("e", 0);
+        Check.wrongAt("ever 5 days", 0);
+        Check.wrongAt("Every 5 days", 0);
+        Check.wrongAt("everyone 5 days", 0);
+        Check.wrongAt(" every 5 days", 0);
+        Check.wrongAt("skip 3", 0);
+        Check.wrongAt("every", 5);
+        Check.wrongAt("every5 days", 5);
+        Check.wrongAt("every ", 6);
+        Check.wrongAt("every days", 6);
+        Check.wrongAt("every 5", 7);
+        Check.wrongAt("every 5days", 7);
+        Check.wrongAt("every 5,6 days", 7);
+        Check.wrongAt("every 5 ", 8);
+        Check.wrongAt("every 5 day", 8);
+        Check.wrongAt("every 5 daysx", 8);
+        Check.wrongAt("every 5 years", 8);
+        Check.wrongAt("every 5 week", 8);
+        Check.wrongAt("every 5 month", 8);
+        Check.wrongAt("every 5 6", 8);
+        Check.wrongAt("every 5 days,", 12);
     }
 
     private static void wrongNumbers() {
-        wrong("every 0 days", 6);
-        wrong("every 00 days", 6);
-        wrong("every 05 days", 6);
-        wrong("every 100 days", 6);
-        wrong("every 4294967297 days", 6);
-        wrong("every 18446744073709551617 days", 6);
-        wrong("every -5 days", 6);
-        wrong("every x days", 6);
-        wrong("every 5 days joined 0", 20);
-        wrong("every 5 days joined 1", 20);
-        wrong("every 5 days joined 100", 20);
-        wrong("every 5 days joined 02", 20);
-        wrong("every 5 days joined", 19);
-        wrong("every 5 days joined ", 20);
-        wrong("every 5 days joined x", 20);
-        wrong("every 5 days joined 2,3", 21);
-        wrong("every 5 days volume 0", 20);
-        wrong("every 5 days volume 100", 20);
-        wrong("every 5 days volume 07", 20);
-        wrong("every 5 days volume restart", 20);
-        wrong("every 5 days volume", 19);
-        wrong("every 5 days volume 7restart", 21);
+        Check.wrongAt("every 0 days", 6);
+        Check.wrongAt("every 00 days", 6);
+        Check.wrongAt("every 05 days", 6);
+        Check.wrongAt("every 100 days", 6);
+        Check.wrongAt("every 4294967297 days", 6);
+        Check.wrongAt("every 18446744073709551617 days", 6);
+        Check.wrongAt("every -5 days", 6);
+        Check.wrongAt("every x days", 6);
+        Check.wrongAt("every 5 days joined 0", 20);
+        Check.wrongAt("every 5 days joined 1", 20);
+        Check.wrongAt("every 5 days joined 100", 20);
+        Check.wrongAt("every 5 days joined 02", 20);
+        Check.wrongAt("every 5 days joined", 19);
+        Check.wrongAt("every 5 days joined ", 20);
+        Check.wrongAt("every 5 days joined x", 20);
+        Check.wrongAt("every 5 days joined 2,3", 21);
+        Check.wrongAt("every 5 days volume 0", 20);
+        Check.wrongAt("every 5 days volume 100", 20);
+        Check.wrongAt("every 5 days volume 07", 20);
+        Check.wrongAt("every 5 days volume restart", 20);
+        Check.wrongAt("every 5 days volume", 19);
+        Check.wrongAt("every 5 days volume 7restart", 21);
     }
 
     private static void wrongMonths() {
-        wrong("every 5 days skip", 17);
-        wrong("every 5 days skip ", 18);
-        wrong("every 5 days skip joined 2", 18);
-        wrong("every 5 days skip ,", 18);
-        wrong("every 5 days skip 12", 18);
-        wrong("every 5 days skip 00", 18);
-        wrong("every 5 days skip 01", 18);
-        wrong("every 5 days skip 3,3", 20);
-        wrong("every 5 days skip 3,2", 20);
-        wrong("every 5 days skip 3,04", 20);
-        wrong("every 5 days skip 3,12", 20);
-        wrong("every 5 days skip 3,", 20);
-        wrong("every 5 days skip 3,,4", 20);
-        wrong("every 5 days skip 3, 4", 20);
-        wrong("every 5 days skip 3,x", 20);
-        wrong("every 5 days skip 11,", 21);
-        wrong("every 5 days skip 11,11", 21);
-        wrong("every 5 days skip 3.4", 19);
-        wrong("every 5 days skip 3 ,4", 20);
-        wrong("every 5 days skip 3 4", 20);
-        wrong("every 5 days skip 0,1,2,3,4,5,6,7,8,9,10,11,12", 44);
+        Check.wrongAt("every 5 days skip", 17);
+        Check.wrongAt("every 5 days skip ", 18);
+        Check.wrongAt("every 5 days skip joined 2", 18);
+        Check.wrongAt("every 5 days skip ,", 18);
+        Check.wrongAt("every 5 days skip 12", 18);
+        Check.wrongAt("every 5 days skip 00", 18);
+        Check.wrongAt("every 5 days skip 01", 18);
+        Check.wrongAt("every 5 days skip 3,3", 20);
+        Check.wrongAt("every 5 days skip 3,2", 20);
+        Check.wrongAt("every 5 days skip 3,04", 20);
+        Check.wrongAt("every 5 days skip 3,12", 20);
+        Check.wrongAt("every 5 days skip 3,", 20);
+        Check.wrongAt("every 5 days skip 3,,4", 20);
+        Check.wrongAt("every 5 days skip 3, 4", 20);
+        Check.wrongAt("every 5 days skip 3,x", 20);
+        Check.wrongAt("every 5 days skip 11,", 21);
+        Check.wrongAt("every 5 days skip 11,11", 21);
+        Check.wrongAt("every 5 days skip 3.4", 19);
+        Check.wrongAt("every 5 days skip 3 ,4", 20);
+        Check.wrongAt("every 5 days skip 3 4", 20);
+        Check.wrongAt("every 5 days skip 0,1,2,3,4,5,6,7,8,9,10,11,12", 44);
     }
 
     private static void wrongClauses() {
-        wrong("every 5 days foo", 13);
-        wrong("every 5 days days", 13);
-        wrong("every 5 days restart", 13);
-        wrong("every 5 days skip 3 skip 4", 20);
-        wrong("every 5 days skip 3 restart", 20);
-        wrong("every 5 days joined 2 skip 3", 22);
-        wrong("every 5 days joined 2 joined 2", 22);
-        wrong("every 5 days joined 2 restart", 22);
-        wrong("every 5 days volume 3 joined 2", 22);
-        wrong("every 5 days volume 3 skip 2", 22);
-        wrong("every 5 days volume 3 volume 3", 22);
-        wrong("every 5 days volume 3 restar", 22);
-        wrong("every 5 days volume 3 restarts", 22);
-        wrong("every 5 days volume 3 restart restart", 30);
-        wrong("every 5 days volume 3 restart skip 3", 30);
+        Check.wrongAt("every 5 days foo", 13);
+        Check.wrongAt("every 5 days days", 13);
+        Check.wrongAt("every 5 days restart", 13);
+        Check.wrongAt("every 5 days skip 3 skip 4", 20);
+        Check.wrongAt("every 5 days skip 3 restart", 20);
+        Check.wrongAt("every 5 days joined 2 skip 3", 22);
+        Check.wrongAt("every 5 days joined 2 joined 2", 22);
+        Check.wrongAt("every 5 days joined 2 restart", 22);
+        Check.wrongAt("every 5 days volume 3 joined 2", 22);
+        Check.wrongAt("every 5 days volume 3 skip 2", 22);
+        Check.wrongAt("every 5 days volume 3 volume 3", 22);
+        Check.wrongAt("every 5 days volume 3 restar", 22);
+        Check.wrongAt("every 5 days volume 3 restarts", 22);
+        Check.wrongAt("every 5 days volume 3 restart restart", 30);
+        Check.wrongAt("every 5 days volume 3 restart skip 3", 30);
     }
 
     private static void wrongSpaces() {
-        wrong("every  5 days", 6);
-        wrong("every 5  days", 8);
-        wrong("every 5 days ", 13);
-        wrong("every 5 days  skip 3", 13);
-        wrong("every 5 days skip  3", 18);
-        wrong("every 5 days skip 3 ", 20);
-        wrong("every 5 days skip 3  joined 2", 20);
-        wrong("every 5 days volume 3 ", 22);
-        wrong("every 5 days\n", 12);
-        wrong("every\t5 days", 5);
+        Check.wrongAt("every  5 days", 6);
+        Check.wrongAt("every 5  days", 8);
+        Check.wrongAt("every 5 days ", 13);
+        Check.wrongAt("every 5 days  skip 3", 13);
+        Check.wrongAt("every 5 days skip  3", 18);
+        Check.wrongAt("every 5 days skip 3 ", 20);
+        Check.wrongAt("every 5 days skip 3  joined 2", 20);
+        Check.wrongAt("every 5 days volume 3 ", 22);
+        Check.wrongAt("every 5 days\n", 12);
+        Check.wrongAt("every\t5 days", 5);
     }
 
     private static void collecting() {
